@@ -29,12 +29,13 @@ public final class LongRunsTest {
     }
 
     private static void oneCall(String at, Random dice, EntryTable x, PlainTable y, boolean filling) {
-        int width = x.count(1);
-        switch (dice.nextInt(filling ? 10 : 12)) {
+        // The plain table is asked for what the dice need: x is good for 512 calls alone.
+        int width = y.count(1);
+        switch (dice.nextInt(filling ? 11 : 13)) {
             case 0, 1, 2, 3 -> {
-                int k = dice.nextInt(40) == 0 ? dice.nextInt(9) - 4 : dice.nextInt(x.count(0));
-                long mask = mask(dice, k >= 0 && k < 3 ? x.count(4 + k) : 0, width);
-                long value = value(dice, k >= 0 && k < 3 ? x.count(4 + k) : 0, width, mask);
+                int k = dice.nextInt(40) == 0 ? dice.nextInt(9) - 4 : dice.nextInt(y.count(0));
+                long mask = mask(dice, k >= 0 && k < 3 ? y.count(4 + k) : 0, width);
+                long value = value(dice, k >= 0 && k < 3 ? y.count(4 + k) : 0, width, mask);
                 check.due(at + " match", x.match(k, value, mask), y.match(k, value, mask));
             }
             case 4, 5, 6 -> {
@@ -55,8 +56,10 @@ public final class LongRunsTest {
             }
             case 9 -> {
                 int entry = dice.nextInt(60) - 2;
-                int what = dice.nextInt(10) - 1;
                 check.due(at + " hits", x.hits(entry), y.hits(entry));
+            }
+            case 10 -> {
+                int what = dice.nextInt(10) - 1;
                 check.due(at + " count", x.count(what), y.count(what));
             }
             default -> {
