@@ -54,6 +54,19 @@ public final class FaceTest {
         check.due("NONE", EntryTable.NONE, -2);
         check.due("FULL", EntryTable.FULL, -3);
         check.due("THERE", EntryTable.THERE, -4);
+        check.same("what a switch makes of -1 to -4", name(-1) + name(-2) + name(-3) + name(-4),
+                "refused none full there ");
         check.end();
+    }
+
+    /** It compiles only while the four are constants that a switch may name. */
+    private static String name(int answer) {
+        switch (answer) {
+            case EntryTable.REFUSED: return "refused ";
+            case EntryTable.NONE: return "none ";
+            case EntryTable.FULL: return "full ";
+            case EntryTable.THERE: return "there ";
+            default: return "another ";
+        }
     }
 }
